@@ -827,7 +827,6 @@ public final class ThreeBelow {
         void comeUp(int p) {
             if (isPerson(p)) {
                 row[PLACE + p] = ABOVE;
-                row[STAY + p] = 0;
             }
         }
 

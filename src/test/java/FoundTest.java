@@ -11,9 +11,11 @@ public final class FoundTest {
         staysOfAll();
         staysByKings();
         staysByWorth();
+        staysOfFourDepths();
         staysAsTold();
         ask();
         askByParts();
+        askPartsOffOne();
         askNone();
         write();
         tear();
@@ -115,6 +117,24 @@ public final class FoundTest {
         Check.due("6 years, first king", x.stays(NONE), 2);
     }
 
+    private static void staysOfFourDepths() {
+        ThreeBelow x = Check.shoreOf("s5 7;d5;d4;d3;d2;g100 10 9999;g128 100 0;");
+        // 100 110 121 133 146 160 176 193 212 233 256 281 309
+        x.find(0, 0, 309);
+        Check.due("12 years: how many", x.stays(NONE), 3);
+        Check.due("12 years: 3 days of 4", x.stays(0), 103);
+        Check.due("12 years: 4 days of 3", x.stays(1), 204);
+        Check.due("12 years: 6 days of 2", x.stays(2), 306);
+        x.tear();
+        x.find(0, 0, 110);
+        Check.due("1 year", x.stays(NONE), 0);
+        x.tear();
+        x.find(0, 1, 8);
+        Check.due("4 years: how many", x.stays(NONE), 2);
+        Check.due("4 years: 1 day of 4", x.stays(0), 101);
+        Check.due("4 years: 2 days of 2", x.stays(1), 302);
+    }
+
     private static void staysAsTold() {
         ThreeBelow x = Check.shoreOf("s5 7;d2;p5 80;g100 10 9999;");
         x.year(30);
@@ -175,6 +195,14 @@ public final class FoundTest {
         z.find(0, 1, 100);
         Check.due("no days, two depths", z.stays(NONE), 2);
         Check.due("cannot be told apart", z.ask(), NONE);
+    }
+
+    private static void askPartsOffOne() {
+        // 2 1 1 1 ..: no days at all are told from the thirty others.
+        Check.due("one of thirty-one", Check.shoreOf("s5 7;d1;g5 0 9;g2 100 0;").ask(), 1);
+        // Good 1 parts 62 into 2 and 60, good 2 into 2, 2 and 58.
+        Check.due("two by two", Check.shoreOf("s5 7;d1;d1;g5 0 9;g2 100 0;g4 100 0;").ask(), 2);
+        Check.due("two by two, turned", Check.shoreOf("s5 7;d1;d1;g5 0 9;g4 100 0;g2 100 0;").ask(), 1);
     }
 
     private static void askNone() {

@@ -12,6 +12,7 @@ public final class ShoreTest {
         shoreThatStands();
         emptyText();
         shoreBeginsAnew();
+        shoresInARow();
         faultLeavesAllElse();
         faultsOfPlace();
         faultsOfNumbers();
@@ -21,6 +22,7 @@ public final class ShoreTest {
         toldSets();
         depth();
         person();
+        personsApart();
         good();
         Check.end();
     }
@@ -140,6 +142,36 @@ public final class ShoreTest {
         Check.due("stays", x.stays(NONE), 31);
         Check.due("ask", x.ask(), NONE);
         Check.due("seed stays", x.seed(0), 77);
+    }
+
+    private static int shoreOf(ThreeBelow x, String text) {
+        Check.feedAll(x, text);
+        return x.shore();
+    }
+
+    /** Nothing of an older shore, or of a text with a fault, is in a later one. */
+    private static void shoresInARow() {
+        ThreeBelow x = new ThreeBelow();
+        Check.due("first", shoreOf(x, "s5 7;d3;p10 60;g4 5 6;"), 1);
+        Check.due("second", shoreOf(x, "s6 8;d4;d5;p11 61;p12 62;g7 8 9;g1 2 3;"), 2);
+        Check.due("third", shoreOf(x, "s7 9;d6;p13 63;p14 64;p15 65;g3 2 1;"), 3);
+        Check.due("third's depths", x.told(2), 1);
+        Check.due("third's goods", x.told(4), 1);
+        Check.due("third's depth", x.depth(0), 6);
+        Check.due("third's person", x.person(2, 0), 15);
+        Check.due("third's good", x.good(0, 1), 3);
+        Check.due("a fault late", shoreOf(x, "s8 9;d1;d2;p1 2;p3 4;g1 1 1;x"), -11);
+        Check.due("third still", x.told(0), 7);
+        Check.due("behind a fault", shoreOf(x, "s9 9;d8;p20 70;"), 1);
+        Check.due("its depths", x.told(2), 1);
+        Check.due("its depth", x.depth(0), 8);
+        Check.due("its goods", x.told(4), 0);
+        Check.due("no 's' behind a fault", shoreOf(x, "d8;p20 70;"), -11);
+        Check.due("a fault again", shoreOf(x, "s8 9;d1;p1 2;g1 1 1;x"), -11);
+        Check.due("an empty text behind faults", x.shore(), 0);
+        for (int what = 0; what <= 13; what++) {
+            Check.due("no shore: told(" + what + ")", x.told(what), 0);
+        }
     }
 
     private static void faultLeavesAllElse() {
@@ -368,6 +400,25 @@ public final class ShoreTest {
         Check.due("dead one keeps the box", x.person(0, 3), 8);
         x.year(50);
         Check.due("age long dead", x.person(0, 0), 60);
+    }
+
+    private static void personsApart() {
+        ThreeBelow x = Check.shoreOf("s5 7;d3;d4;p10 60;p20 61;p30 62;p40 63;p50 64;p55 65;p58 66;");
+        for (int p = 0; p < 7; p++) {
+            x.down(p, p % 2);
+            x.year(1);
+        }
+        int[] ages = {10, 21, 32, 43, 54, 60, 64};
+        for (int p = 0; p < 7; p++) {
+            Check.due("age of " + p, x.person(p, 0), ages[p]);
+            Check.due("L of " + p, x.person(p, 1), 60 + p);
+            Check.due("where is " + p, x.person(p, 2), 10 + p % 2);
+            Check.due("box of " + p, x.person(p, 3), 7 - p);
+            Check.due("days of " + p, x.person(p, 4), (7 - p) / (3 + p % 2));
+        }
+        x.up(3);
+        Check.due("days of 3, up", x.person(3, 4), 0);
+        Check.due("box of 3, up", x.person(3, 3), 4);
     }
 
     private static void good() {

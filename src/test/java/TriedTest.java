@@ -81,6 +81,8 @@ public final class TriedTest {
         ThreeBelow far = Check.shoreOf("s5 7;d10;p0 150;p90 150;p91 150;");
         Check.due("9 days at most", far.both(1, 0, 0), 90);
         Check.due("9 days at most, the four", far.both(1, 0, 1), 1900);
+        Check.due("9 days at most, turned", far.both(0, 1, 0), 90);
+        Check.due("9 days at most, turned, the four", far.both(0, 1, 1), 19);
         Check.due("more than 9 days", far.both(2, 0, 0), NONE);
         Check.due("more than 9 days, the four", far.both(2, 0, 1), NONE);
         ThreeBelow none = Check.shoreOf("s5 7;p0 150;p0 150;p1 150;");
@@ -112,7 +114,9 @@ public final class TriedTest {
         Check.due("10 years are too many", x.both(1, 3, 0), NONE);
         ThreeBelow y = Check.shoreOf("s5 7;d2;p20 30;p20 31;p30 99;p28 29;p20 29;");
         Check.due("dead at 30", y.both(2, 0, 0), NONE);
+        Check.due("dead at 30, turned", y.both(0, 2, 0), NONE);
         Check.due("lives at 30", y.both(2, 1, 0), 10);
+        Check.due("lives at 30, turned", y.both(1, 2, 0), 10);
         Check.due("both live at 28", y.both(3, 4, 0), 8);
         // The box stays shut: its years do not count.
         ThreeBelow z = Check.shoreOf("s5 7;d2;p20 90;p20 90;");
