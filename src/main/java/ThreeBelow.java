@@ -10,11 +10,11 @@ public final class ThreeBelow {
     private static final int MOST_YEARS_AT_ONCE = 300;
     private static final int MOST_YEARS_ADRIFT = 60;
     private static final int BILLION = 1000000000;
+    private static final int LOW_31_BITS = 2147483647;
+    /** Above all that is weighed against it, so that whatever can be is less. */
+    private static final int NEVER = 2147483647;
 
-    private final int[] text = new int[MOST_LETTERS];
-    private int textLength;
-    private int faultAt = NONE;
-    private final ShoreReader reader = new ShoreReader();
+    private final ShoreText text = new ShoreText();
     private Shore land = new Shore();
     // A text is read into the draft, so that a fault leaves the land as it was.
     private Shore draft = new Shore();
@@ -34,20 +34,18 @@ public final class ThreeBelow {
         if (letter < 0 || letter > 255) {
             return OUTSIDE;
         }
-        if (textLength >= MOST_LETTERS) {
+        if (text.length >= MOST_LETTERS) {
             return FULL;
         }
-        text[textLength] = letter;
-        textLength++;
-        return textLength;
+        text.add(letter);
+        return text.length;
     }
 
     public int shore() {
-        int faultNumber = reader.read(text, textLength, draft);
-        textLength = 0;
-        faultAt = reader.faultAt;
-        if (faultNumber != 0) {
-            return -10 - faultNumber;
+        text.readInto(draft);
+        text.empty();
+        if (text.faultNumber != 0) {
+            return -10 - text.faultNumber;
         }
         Shore before = land;
         land = draft;
@@ -55,13 +53,13 @@ public final class ThreeBelow {
         life.begin(land);
         past.forget();
         images.forget();
-        finds.beginAt();
+        finds.beginAnew();
         book.empty();
         return land.persons;
     }
 
     public int fault() {
-        return faultAt;
+        return text.faultAt;
     }
 
     public int told(int what) {
@@ -71,7 +69,7 @@ public final class ThreeBelow {
             case 2: return land.depths;
             case 3: return land.persons;
             case 4: return land.goods;
-            case 5: return textLength;
+            case 5: return text.length;
             case 6: return life.years();
             case 7: return land.kingAt(life.years());
             case 8: return life.deadOnes(land);
@@ -235,7 +233,7 @@ public final class ThreeBelow {
 
     private int draw(int n) {
         // The wrap at 2 to the 32 keeps the low 31 bits right, and these are all that is left over.
-        seedNow = (seedNow * 1103515245 + 12345) & Integer.MAX_VALUE;
+        seedNow = (seedNow * 1103515245 + 12345) & LOW_31_BITS;
         return n < 1 ? 0 : seedNow / 65536 % n;
     }
 
@@ -251,7 +249,7 @@ public final class ThreeBelow {
         if (!life.isAbove(p) || !life.isAbove(q)) {
             return NOT;
         }
-        int best = Integer.MAX_VALUE;
+        int best = NEVER;
         for (int days = 0; days <= 99; days++) {
             int age = life.age(p) + days * land.rate[d];
             if (age < land.lifespan[p]) {
@@ -259,7 +257,7 @@ public final class ThreeBelow {
                 best = Math.min(best, miss * 100 + days);
             }
         }
-        if (best == Integer.MAX_VALUE) {
+        if (best == NEVER) {
             return NONE;
         }
         return what == 0 ? best % 100 : best / 100;
@@ -275,19 +273,19 @@ public final class ThreeBelow {
         if (!life.isAbove(p) || !life.isAbove(q)) {
             return NOT;
         }
-        int best = Integer.MAX_VALUE;
+        int best = NEVER;
         for (int pStay = 0; pStay <= 9 * land.depths; pStay++) {
             for (int qStay = 0; qStay <= 9 * land.depths; qStay++) {
                 best = Math.min(best, bothBy(p, pStay, q, qStay));
             }
         }
-        if (best == Integer.MAX_VALUE) {
+        if (best == NEVER) {
             return NONE;
         }
         return what == 0 ? best / 10000 : best % 10000;
     }
 
-    /** The years till both are up and, in the lowest four figures, the two stays; the greatest int if they do not meet. */
+    /** The years till both are up and, in the lowest four figures, the two stays; NEVER if they do not meet. */
     private int bothBy(int p, int pStay, int q, int qStay) {
         int pBelow = yearsOfStay(pStay);
         int qBelow = yearsOfStay(qStay);
@@ -295,7 +293,7 @@ public final class ThreeBelow {
         int pAge = life.age(p) + till - pBelow;
         int qAge = life.age(q) + till - qBelow;
         if (pAge != qAge || pAge >= land.lifespan[p] || qAge >= land.lifespan[q]) {
-            return Integer.MAX_VALUE;
+            return NEVER;
         }
         return till * 10000 + figuresOfStay(pStay) * 100 + figuresOfStay(qStay);
     }
@@ -597,8 +595,8 @@ public final class ThreeBelow {
         }
     }
 
-    /** Reads a text into a shore, up to its first fault. */
-    private static final class ShoreReader {
+    /** The text, and how it is read into a shore, up to its first fault. */
+    private static final class ShoreText {
         private static final String WORDS = "sdpg";
         private static final int[] NUMBERS_OF_WORD = {2, 1, 2, 3};
         private static final int[] FIRST_BOUND_OF_WORD = {0, 2, 3, 5};
@@ -612,15 +610,23 @@ public final class ThreeBelow {
 
         private final int[] signs = new int[MOST_LETTERS];
         private final int[] numbers = new int[3];
-        private int length;
+        int length;
         private int at;
-        private int faultNumber;
+        int faultNumber;
         int faultAt = NONE;
 
-        /** The number of the first fault, or 0. */
-        int read(int[] text, int textLength, Shore shore) {
-            length = Math.max(0, Math.min(textLength, Math.min(text.length, MOST_LETTERS)));
-            System.arraycopy(text, 0, signs, 0, length);
+        void add(int letter) {
+            if (length < MOST_LETTERS) {
+                signs[length] = letter;
+                length++;
+            }
+        }
+
+        void empty() {
+            length = 0;
+        }
+
+        void readInto(Shore shore) {
             at = 0;
             faultNumber = 0;
             faultAt = NONE;
@@ -628,7 +634,6 @@ public final class ThreeBelow {
             if (length > 0) {
                 readClauses(shore);
             }
-            return faultNumber;
         }
 
         private void readClauses(Shore shore) {
@@ -700,7 +705,7 @@ public final class ThreeBelow {
         }
 
         private int here() {
-            return at >= 0 && at < length && at < MOST_LETTERS ? signs[at] : END;
+            return at < length && at < MOST_LETTERS ? signs[at] : END;
         }
 
         private boolean isFigure(int letter) {
@@ -931,7 +936,7 @@ public final class ThreeBelow {
         int fitting;
         private boolean isSought;
 
-        void beginAt() {
+        void beginAnew() {
             isCounted = false;
             empty();
         }
