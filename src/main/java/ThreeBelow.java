@@ -631,16 +631,15 @@ public final class ThreeBelow {
             faultNumber = 0;
             faultAt = NONE;
             shore.empty();
-            if (length > 0) {
-                readClauses(shore);
-            }
+            readClauses(shore);
         }
 
         private void readClauses(Shore shore) {
             // Every clause takes a letter at least.
             for (int i = 0; i <= MOST_LETTERS && faultNumber == 0; i++) {
                 skipBlanks();
-                if (here() == END && shore.isTold()) {
+                if (here() == END) {
+                    // A text without a clause tells no shore, and that is no fault.
                     return;
                 }
                 readClause(shore);
@@ -649,7 +648,7 @@ public final class ThreeBelow {
 
         private void readClause(Shore shore) {
             int word = here();
-            int kind = word == END ? NONE : WORDS.indexOf((char) word);
+            int kind = WORDS.indexOf((char) word);
             if (kind < 0 || !shore.isTold() && kind != 0) {
                 blame(CANNOT_STAND, at);
                 return;

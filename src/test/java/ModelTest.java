@@ -83,8 +83,9 @@ public final class ModelTest {
     }
 
     private void tellShore() {
-        StringBuilder s = new StringBuilder(shoreText());
-        if (random.nextInt(4) == 0) {
+        boolean isBlank = random.nextInt(20) == 0;
+        StringBuilder s = new StringBuilder(isBlank ? " ".repeat(upTo(3)) : shoreText());
+        if (!isBlank && random.nextInt(4) == 0) {
             spoil(s);
         }
         for (int i = 0; i < s.length(); i++) {

@@ -111,7 +111,7 @@ final class PlainModel {
         int i = 0;
         while (true) {
             Token word = all.get(i++);
-            if (word.word == '$' && word.at == s.length() && counts.containsKey('s')) return null;
+            if (word.word == '$' && word.at == s.length()) return null;
             if (!BOUNDS.containsKey(word.word)) return new int[] {1, word.at};
             if (clauses.isEmpty() && word.word != 's') return new int[] {1, word.at};
             if (counts.merge(word.word, 1, Integer::sum) > MOST.get(word.word)) return new int[] {3, word.at};
@@ -136,7 +136,7 @@ final class PlainModel {
         String s = text.toString();
         text.setLength(0);
         List<int[]> clauses = new ArrayList<>();
-        int[] fault = s.isEmpty() ? null : parse(s, clauses);
+        int[] fault = parse(s, clauses);
         faultAt = fault == null ? NONE : fault[1];
         if (fault != null) return -10 - fault[0];
         isTold = false;

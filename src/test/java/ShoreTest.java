@@ -10,7 +10,7 @@ public final class ShoreTest {
         newObject();
         feed();
         shoreThatStands();
-        emptyText();
+        textsWithoutAClause();
         shoreBeginsAnew();
         shoresInARow();
         faultLeavesAllElse();
@@ -93,18 +93,27 @@ public final class ShoreTest {
         Check.due("bare seed stays", bare.seed(1), 0);
     }
 
-    private static void emptyText() {
+    private static void textsWithoutAClause() {
+        textWithoutAClause("");
+        textWithoutAClause(" ");
+        textWithoutAClause("   ");
+        textWithoutAClause(" ".repeat(240));
+    }
+
+    private static void textWithoutAClause(String text) {
+        Check.due("a new object's shore of " + text.length() + " blanks", shoreOf(new ThreeBelow(), text), 0);
         ThreeBelow x = Check.shoreOf("s5 7;d3;p10 60;g4 5 6;");
         x.year(3);
         x.keep(0);
         x.year(3);
         x.find(1, 0, 0);
         x.write(0, 1);
-        Check.feedAll(x, "x");
-        Check.due("shore with a fault", x.shore(), -11);
+        x.seed(77);
+        Check.due("shore with a fault", shoreOf(x, "x"), -11);
         Check.due("fault", x.fault(), 0);
-        Check.due("shore of an empty text", x.shore(), 0);
+        Check.due("shore of " + text.length() + " blanks", shoreOf(x, text), 0);
         Check.due("no fault", x.fault(), NONE);
+        Check.due("no shore: seed stays", x.seed(0), 77);
         for (int what = 0; what <= 13; what++) {
             Check.due("no shore: told(" + what + ")", x.told(what), 0);
         }
@@ -216,7 +225,8 @@ public final class ShoreTest {
         fault(";", 1, 0);
         fault("5", 1, 0);
         fault("55555", 1, 0);
-        fault("   ", 1, 3);
+        fault(" " + (char) 9, 1, 1);
+        fault("   ;", 1, 3);
         fault("S1 1;", 1, 0);
         fault("s", 1, 1);
         fault("s  ", 1, 3);
