@@ -31,6 +31,23 @@ final class Check {
         return x;
     }
 
+    /** The text has this fault at this letter, and a shore was not begun by it. */
+    static void faultOf(String text, int number, int letter) {
+        ThreeBelow x = new ThreeBelow();
+        feedAll(x, text);
+        due("shore of \"" + text + "\"", x.shore(), -10 - number);
+        due("fault of \"" + text + "\"", x.fault(), letter);
+        due("D behind the fault of \"" + text + "\"", x.told(0), 0);
+    }
+
+    static void alike(String call, String got, String want) {
+        calls++;
+        if (!got.equals(want)) {
+            wrong++;
+            System.out.println(call + " shows\n  " + got + "\ndue is\n  " + want);
+        }
+    }
+
     static boolean hasWrong() {
         return wrong > 0;
     }

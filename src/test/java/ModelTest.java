@@ -7,14 +7,11 @@ public final class ModelTest {
     private static final String NOISE = "sdpg;;  0123456789999x";
 
     private final Random random;
-    private final ThreeBelow real = new ThreeBelow();
-    private final PlainModel plain = new PlainModel();
-    private final int run;
-    private int calls;
+    private final Pair pair;
 
     private ModelTest(int run) {
-        this.run = run;
         this.random = new Random(run);
+        this.pair = new Pair("run " + run);
     }
 
     public static void main(String[] args) {
@@ -28,12 +25,12 @@ public final class ModelTest {
         if (random.nextInt(10) > 0) {
             tellShore();
         }
-        while (calls < CALLS && !Check.hasWrong()) {
+        while (pair.calls < CALLS && !Check.hasWrong()) {
             int draw = random.nextInt(1000);
             if (draw < 3) {
                 tellShore();
             } else if (draw < 10) {
-                same("feed", new int[] {random.nextInt(300) - 20});
+                pair.same("feed", random.nextInt(300) - 20);
             } else {
                 oneCall();
             }
@@ -88,25 +85,22 @@ public final class ModelTest {
         if (!isBlank && random.nextInt(4) == 0) {
             spoil(s);
         }
-        for (int i = 0; i < s.length(); i++) {
-            same("feed", new int[] {s.charAt(i)});
-        }
-        same("shore", new int[0]);
-        same("fault", new int[0]);
+        pair.tell(s.toString());
+        pair.same("fault");
     }
 
     private int person() {
-        int n = plain.told(3);
+        int n = pair.plain.told(3);
         return random.nextInt(25) == 0 || n == 0 ? between(-1, 8) : upTo(n - 1);
     }
 
     private int depth() {
-        int n = plain.told(2);
+        int n = pair.plain.told(2);
         return random.nextInt(25) == 0 || n == 0 ? between(-1, 5) : upTo(n - 1);
     }
 
     private int good() {
-        int n = plain.told(4);
+        int n = pair.plain.told(4);
         return random.nextInt(25) == 0 || n == 0 ? between(-1, 7) : upTo(n - 1);
     }
 
@@ -122,34 +116,34 @@ public final class ModelTest {
 
     private void oneCall() {
         switch (random.nextInt(36)) {
-            case 0: case 1: same("told", new int[] {between(-1, 14)}); break;
-            case 2: same("depth", new int[] {depth()}); break;
-            case 3: case 4: same("person", new int[] {person(), number(0, 4)}); break;
-            case 5: same("good", new int[] {good(), number(0, 3)}); break;
-            case 6: same("year", new int[] {random.nextInt(5) > 0 ? number(1, 6) : number(1, 300)}); break;
-            case 7: case 8: same("down", new int[] {person(), depth()}); break;
-            case 9: case 10: same("up", new int[] {person()}); break;
-            case 11: same("open", new int[] {person()}); break;
-            case 12: same("take", new int[] {random.nextInt(4) == 0 ? good() : -1}); break;
-            case 13: same("drift", new int[] {random.nextInt(5) > 0 ? number(1, 6) : number(1, 60)}); break;
-            case 14: case 15: case 16: same("undo", new int[0]); break;
-            case 17: same("meet", new int[] {person(), person(), depth(), number(-199, 199), number(0, 1)}); break;
-            case 18: case 19: same("both", new int[] {person(), person(), number(0, 1)}); break;
-            case 20: same("leave", new int[] {number(0, 300), number(0, 1)}); break;
-            case 21: same("when", new int[] {good(), number(0, 9999) / between(1, 20)}); break;
-            case 22: same("letters", new int[] {depth(), number(1, 9)}); break;
-            case 23: same("wouldOpen", new int[] {person()}); break;
-            case 24: same("yearsLeft", new int[] {person()}); break;
-            case 25: same("latest", new int[0]); break;
-            case 26: same("storm", new int[] {number(0, 60), number(0, 100)}); break;
+            case 0: case 1: pair.same("told", between(-1, 14)); break;
+            case 2: pair.same("depth", depth()); break;
+            case 3: case 4: pair.same("person", person(), number(0, 4)); break;
+            case 5: pair.same("good", good(), number(0, 3)); break;
+            case 6: pair.same("year", random.nextInt(5) > 0 ? number(1, 6) : number(1, 300)); break;
+            case 7: case 8: pair.same("down", person(), depth()); break;
+            case 9: case 10: pair.same("up", person()); break;
+            case 11: pair.same("open", person()); break;
+            case 12: pair.same("take", random.nextInt(4) == 0 ? good() : -1); break;
+            case 13: pair.same("drift", random.nextInt(5) > 0 ? number(1, 6) : number(1, 60)); break;
+            case 14: case 15: case 16: pair.same("undo"); break;
+            case 17: pair.same("meet", person(), person(), depth(), number(-199, 199), number(0, 1)); break;
+            case 18: case 19: pair.same("both", person(), person(), number(0, 1)); break;
+            case 20: pair.same("leave", number(0, 300), number(0, 1)); break;
+            case 21: pair.same("when", good(), number(0, 9999) / between(1, 20)); break;
+            case 22: pair.same("letters", depth(), number(1, 9)); break;
+            case 23: pair.same("wouldOpen", person()); break;
+            case 24: pair.same("yearsLeft", person()); break;
+            case 25: pair.same("latest"); break;
+            case 26: pair.same("storm", number(0, 60), number(0, 100)); break;
             case 27: case 28: findSomething(); break;
-            case 29: same("stays", new int[] {number(-1, 40)}); break;
-            case 30: same("ask", new int[0]); break;
+            case 29: pair.same("stays", number(-1, 40)); break;
+            case 30: pair.same("ask"); break;
             case 31: writeSomething(); break;
-            case 32: same("tear", new int[0]); break;
-            case 33: same("judge", new int[0]); break;
-            case 34: same("seed", new int[] {random.nextInt()}); break;
-            default: same(random.nextBoolean() ? "keep" : "goBack", new int[] {number(0, 1)}); break;
+            case 32: pair.same("tear"); break;
+            case 33: pair.same("judge"); break;
+            case 34: pair.same("seed", random.nextInt()); break;
+            default: pair.same(random.nextBoolean() ? "keep" : "goBack", number(0, 1)); break;
         }
     }
 
@@ -157,100 +151,17 @@ public final class ModelTest {
     private void findSomething() {
         int kind = number(0, 1);
         if (kind == 1) {
-            same("find", new int[] {1, random.nextInt(20) == 0 ? 1 : 0, random.nextInt(10) == 0 ? number(0, 9999) : upTo(3)});
+            pair.same("find", 1, random.nextInt(20) == 0 ? 1 : 0, random.nextInt(10) == 0 ? number(0, 9999) : upTo(3));
         } else {
             int g = good();
-            int worth = random.nextInt(4) == 0 ? number(0, 9999) : plain.good(g, random.nextInt(2));
-            same("find", new int[] {kind, g, worth});
+            int worth = random.nextInt(4) == 0 ? number(0, 9999) : pair.plain.good(g, random.nextInt(2));
+            pair.same("find", kind, g, worth);
         }
     }
 
     private void writeSomething() {
         int p = person();
-        int age = random.nextInt(6) == 0 ? number(0, 9999) : plain.person(p, 0);
-        same("write", new int[] {p, age});
-    }
-
-    private void same(String name, int[] a) {
-        calls++;
-        StringBuilder told = new StringBuilder("run ").append(run).append(", call ").append(calls).append(": ").append(name);
-        for (int v : a) {
-            told.append(' ').append(v);
-        }
-        Check.due(told.toString(), ofReal(name, a), ofPlain(name, a));
-    }
-
-    private int ofReal(String name, int[] a) {
-        return switch (name) {
-            case "feed" -> real.feed(a[0]);
-            case "shore" -> real.shore();
-            case "fault" -> real.fault();
-            case "told" -> real.told(a[0]);
-            case "depth" -> real.depth(a[0]);
-            case "person" -> real.person(a[0], a[1]);
-            case "good" -> real.good(a[0], a[1]);
-            case "year" -> real.year(a[0]);
-            case "down" -> real.down(a[0], a[1]);
-            case "up" -> real.up(a[0]);
-            case "open" -> real.open(a[0]);
-            case "take" -> real.take(a[0]);
-            case "drift" -> real.drift(a[0]);
-            case "undo" -> real.undo();
-            case "meet" -> real.meet(a[0], a[1], a[2], a[3], a[4]);
-            case "both" -> real.both(a[0], a[1], a[2]);
-            case "leave" -> real.leave(a[0], a[1]);
-            case "when" -> real.when(a[0], a[1]);
-            case "letters" -> real.letters(a[0], a[1]);
-            case "wouldOpen" -> real.wouldOpen(a[0]);
-            case "yearsLeft" -> real.yearsLeft(a[0]);
-            case "latest" -> real.latest();
-            case "storm" -> real.storm(a[0], a[1]);
-            case "find" -> real.find(a[0], a[1], a[2]);
-            case "stays" -> real.stays(a[0]);
-            case "ask" -> real.ask();
-            case "write" -> real.write(a[0], a[1]);
-            case "tear" -> real.tear();
-            case "judge" -> real.judge();
-            case "seed" -> real.seed(a[0]);
-            case "keep" -> real.keep(a[0]);
-            default -> real.goBack(a[0]);
-        };
-    }
-
-    private int ofPlain(String name, int[] a) {
-        return switch (name) {
-            case "feed" -> plain.feed(a[0]);
-            case "shore" -> plain.shore();
-            case "fault" -> plain.fault();
-            case "told" -> plain.told(a[0]);
-            case "depth" -> plain.depth(a[0]);
-            case "person" -> plain.person(a[0], a[1]);
-            case "good" -> plain.good(a[0], a[1]);
-            case "year" -> plain.year(a[0]);
-            case "down" -> plain.down(a[0], a[1]);
-            case "up" -> plain.up(a[0]);
-            case "open" -> plain.open(a[0]);
-            case "take" -> plain.take(a[0]);
-            case "drift" -> plain.drift(a[0]);
-            case "undo" -> plain.undo();
-            case "meet" -> plain.meet(a[0], a[1], a[2], a[3], a[4]);
-            case "both" -> plain.both(a[0], a[1], a[2]);
-            case "leave" -> plain.leave(a[0], a[1]);
-            case "when" -> plain.when(a[0], a[1]);
-            case "letters" -> plain.letters(a[0], a[1]);
-            case "wouldOpen" -> plain.wouldOpen(a[0]);
-            case "yearsLeft" -> plain.yearsLeft(a[0]);
-            case "latest" -> plain.latest();
-            case "storm" -> plain.storm(a[0], a[1]);
-            case "find" -> plain.find(a[0], a[1], a[2]);
-            case "stays" -> plain.stays(a[0]);
-            case "ask" -> plain.ask();
-            case "write" -> plain.write(a[0], a[1]);
-            case "tear" -> plain.tear();
-            case "judge" -> plain.judge();
-            case "seed" -> plain.seed(a[0]);
-            case "keep" -> plain.keep(a[0]);
-            default -> plain.goBack(a[0]);
-        };
+        int age = random.nextInt(6) == 0 ? number(0, 9999) : pair.plain.person(p, 0);
+        pair.same("write", p, age);
     }
 }

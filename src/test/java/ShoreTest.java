@@ -211,89 +211,82 @@ public final class ShoreTest {
         Check.due("fault still", x.fault(), 31);
     }
 
-    private static void fault(String text, int number, int letter) {
-        ThreeBelow x = new ThreeBelow();
-        Check.feedAll(x, text);
-        Check.due("shore of \"" + text + "\"", x.shore(), -10 - number);
-        Check.due("fault of \"" + text + "\"", x.fault(), letter);
-    }
-
     private static void faultsOfPlace() {
-        fault("d1;", 1, 0);
-        fault("p1 1;", 1, 0);
-        fault("  g1 1 1;", 1, 2);
-        fault(";", 1, 0);
-        fault("5", 1, 0);
-        fault("55555", 1, 0);
-        fault(" " + (char) 9, 1, 1);
-        fault("   ;", 1, 3);
-        fault("S1 1;", 1, 0);
-        fault("s", 1, 1);
-        fault("s  ", 1, 3);
-        fault("s;", 1, 1);
-        fault("s1", 1, 2);
-        fault("s1;", 1, 2);
-        fault("s1 1", 1, 4);
-        fault("s1 1 ", 1, 5);
-        fault("s1 1 1;", 1, 5);
-        fault("s1 1 99999;", 1, 5);
-        fault("s1 1s", 1, 4);
-        fault("ss1 1;", 1, 1);
-        fault("s1,1;", 1, 2);
-        fault("s1\t1;", 1, 2);
-        fault("s-1 1;", 1, 1);
-        fault("s1 1;;", 1, 5);
-        fault("s1 1;1", 1, 5);
-        fault("s1 1; x", 1, 6);
-        fault("s1 1;D1;", 1, 5);
-        fault("s1 1;d;", 1, 6);
-        fault("s1 1;d 1 1;", 1, 9);
-        fault("s1 1;ds", 1, 6);
-        fault("s1 1;d1;d1;d1;d1;pd", 1, 18);
-        fault("s1 1;p1;", 1, 7);
-        fault("s1 1;p1 1 1;", 1, 10);
-        fault("s1 1;g1 1;", 1, 9);
-        fault("s1 1;g1 1 1 1;", 1, 12);
-        fault("s1 1;g1 1 1", 1, 11);
-        fault("s1 1;" + (char) 160, 1, 5);
-        fault("s1 1;" + (char) 0, 1, 5);
-        fault("s1 1;" + (char) 255, 1, 5);
-        fault("s1 1/", 1, 4);
-        fault("s1 1:", 1, 4);
+        Check.faultOf("d1;", 1, 0);
+        Check.faultOf("p1 1;", 1, 0);
+        Check.faultOf("  g1 1 1;", 1, 2);
+        Check.faultOf(";", 1, 0);
+        Check.faultOf("5", 1, 0);
+        Check.faultOf("55555", 1, 0);
+        Check.faultOf(" " + (char) 9, 1, 1);
+        Check.faultOf("   ;", 1, 3);
+        Check.faultOf("S1 1;", 1, 0);
+        Check.faultOf("s", 1, 1);
+        Check.faultOf("s  ", 1, 3);
+        Check.faultOf("s;", 1, 1);
+        Check.faultOf("s1", 1, 2);
+        Check.faultOf("s1;", 1, 2);
+        Check.faultOf("s1 1", 1, 4);
+        Check.faultOf("s1 1 ", 1, 5);
+        Check.faultOf("s1 1 1;", 1, 5);
+        Check.faultOf("s1 1 99999;", 1, 5);
+        Check.faultOf("s1 1s", 1, 4);
+        Check.faultOf("ss1 1;", 1, 1);
+        Check.faultOf("s1,1;", 1, 2);
+        Check.faultOf("s1\t1;", 1, 2);
+        Check.faultOf("s-1 1;", 1, 1);
+        Check.faultOf("s1 1;;", 1, 5);
+        Check.faultOf("s1 1;1", 1, 5);
+        Check.faultOf("s1 1; x", 1, 6);
+        Check.faultOf("s1 1;D1;", 1, 5);
+        Check.faultOf("s1 1;d;", 1, 6);
+        Check.faultOf("s1 1;d 1 1;", 1, 9);
+        Check.faultOf("s1 1;ds", 1, 6);
+        Check.faultOf("s1 1;d1;d1;d1;d1;pd", 1, 18);
+        Check.faultOf("s1 1;p1;", 1, 7);
+        Check.faultOf("s1 1;p1 1 1;", 1, 10);
+        Check.faultOf("s1 1;g1 1;", 1, 9);
+        Check.faultOf("s1 1;g1 1 1 1;", 1, 12);
+        Check.faultOf("s1 1;g1 1 1", 1, 11);
+        Check.faultOf("s1 1;" + (char) 160, 1, 5);
+        Check.faultOf("s1 1;" + (char) 0, 1, 5);
+        Check.faultOf("s1 1;" + (char) 255, 1, 5);
+        Check.faultOf("s1 1/", 1, 4);
+        Check.faultOf("s1 1:", 1, 4);
     }
 
     private static void faultsOfNumbers() {
-        fault("s0 1;", 2, 1);
-        fault("s100 1;", 2, 1);
-        fault("s1 0;", 2, 3);
-        fault("s1 61;", 2, 3);
-        fault("s11;", 1, 3);
-        fault("s9960;", 2, 1);
-        fault("s00001 1;", 2, 1);
-        fault("s  12345", 2, 3);
-        fault("s1 000000000000000001;", 2, 3);
-        fault("s4294967297 1;", 2, 1);
-        fault("s100x", 2, 1);
-        fault("s1 1;d0;", 2, 6);
-        fault("s1 1;d201;", 2, 6);
-        fault("s1 1;d00200;", 2, 6);
-        fault("s1 1;p100 1;", 2, 6);
-        fault("s1 1;p0 0;", 2, 8);
-        fault("s1 1;p0 151;", 2, 8);
-        fault("s1 1;g0 0 0;", 2, 6);
-        fault("s1 1;g1000 0 0;", 2, 6);
-        fault("s1 1;g1 101 0;", 2, 8);
-        fault("s1 1;g1 0 10000;", 2, 10);
-        fault("s1 1;d0;x", 2, 6);
+        Check.faultOf("s0 1;", 2, 1);
+        Check.faultOf("s100 1;", 2, 1);
+        Check.faultOf("s1 0;", 2, 3);
+        Check.faultOf("s1 61;", 2, 3);
+        Check.faultOf("s11;", 1, 3);
+        Check.faultOf("s9960;", 2, 1);
+        Check.faultOf("s00001 1;", 2, 1);
+        Check.faultOf("s  12345", 2, 3);
+        Check.faultOf("s1 000000000000000001;", 2, 3);
+        Check.faultOf("s4294967297 1;", 2, 1);
+        Check.faultOf("s100x", 2, 1);
+        Check.faultOf("s1 1;d0;", 2, 6);
+        Check.faultOf("s1 1;d201;", 2, 6);
+        Check.faultOf("s1 1;d00200;", 2, 6);
+        Check.faultOf("s1 1;p100 1;", 2, 6);
+        Check.faultOf("s1 1;p0 0;", 2, 8);
+        Check.faultOf("s1 1;p0 151;", 2, 8);
+        Check.faultOf("s1 1;g0 0 0;", 2, 6);
+        Check.faultOf("s1 1;g1000 0 0;", 2, 6);
+        Check.faultOf("s1 1;g1 101 0;", 2, 8);
+        Check.faultOf("s1 1;g1 0 10000;", 2, 10);
+        Check.faultOf("s1 1;d0;x", 2, 6);
     }
 
     private static void faultsOfTooMany() {
-        fault("s1 1;s1 1;", 3, 5);
-        fault("s1 1; s", 3, 6);
-        fault("s1 1;d1;d1;d1;d1;d", 3, 17);
-        fault("s1 1;p0 1;p0 1;p0 1;p0 1;p0 1;p0 1;p0 1;p0 1;", 3, 40);
-        fault("s1 1;g1 0 0;g1 0 0;g1 0 0;g1 0 0;g1 0 0;g1 0 0; g", 3, 48);
-        fault("s1 1;d1;p0 1;g1 0 0;s", 3, 20);
+        Check.faultOf("s1 1;s1 1;", 3, 5);
+        Check.faultOf("s1 1; s", 3, 6);
+        Check.faultOf("s1 1;d1;d1;d1;d1;d", 3, 17);
+        Check.faultOf("s1 1;p0 1;p0 1;p0 1;p0 1;p0 1;p0 1;p0 1;p0 1;", 3, 40);
+        Check.faultOf("s1 1;g1 0 0;g1 0 0;g1 0 0;g1 0 0;g1 0 0;g1 0 0; g", 3, 48);
+        Check.faultOf("s1 1;d1;p0 1;g1 0 0;s", 3, 20);
     }
 
     private static void boundsThatStand() {
